@@ -604,22 +604,6 @@ public final class NarrowingKernel {
     }
 
     public int check() {
-        return firstNotRight();
-    }
-
-    public int refutes() {
-        int wrong = firstNotRight();
-        if (wrong == FAR) {
-            return FAR;
-        }
-        boolean empty = false;
-        for (int l = 0; l < lineCount; l++) {
-            empty |= lines[l].parts == 0;
-        }
-        return wrong == NONE && empty ? 1 : 0;
-    }
-
-    private int firstNotRight() {
         for (int l = 0; l < lineCount; l++) {
             int right = from[l] == NONE ? isRightByLines(l) : isRightByRule(l, from[l]);
             if (right == FAR) {
@@ -630,6 +614,18 @@ public final class NarrowingKernel {
             }
         }
         return NONE;
+    }
+
+    public int refutes() {
+        int wrong = check();
+        if (wrong == FAR) {
+            return FAR;
+        }
+        boolean empty = false;
+        for (int l = 0; l < lineCount; l++) {
+            empty |= lines[l].parts == 0;
+        }
+        return wrong == NONE && empty ? 1 : 0;
     }
 
     private int isRightByRule(int l, int r) {
@@ -844,9 +840,9 @@ public final class NarrowingKernel {
             return laid;
         }
 
-        /** How many whole ROWS there are for a RULE of so many PARTS. */
+        /** How many whole ROWS there are for a RULE of so many PARTS; of a MISSING TABLE none. */
         int countRows(int t, int parts) {
-            return isMissing(t) || parts == 0 ? 0 : size[t] / parts;
+            return size[t] < parts || parts == 0 ? 0 : size[t] / parts;
         }
     }
 
@@ -1024,11 +1020,13 @@ public final class NarrowingKernel {
         }
 
         private static int lowest(int multiple, int range) {
-            return multiple * (multiple > 0 ? least(range) : greatest(range));
+            return multiple * (multiple > 0 ? Integer.numberOfTrailingZeros(range)
+                    : 31 - Integer.numberOfLeadingZeros(range));
         }
 
         private static int highest(int multiple, int range) {
-            return multiple * (multiple > 0 ? greatest(range) : least(range));
+            return multiple * (multiple > 0 ? 31 - Integer.numberOfLeadingZeros(range)
+                    : Integer.numberOfTrailingZeros(range));
         }
 
         private static boolean sumTakes(Rule rule, int low, int high, boolean othersAreOne) {
@@ -1113,9 +1111,11 @@ public final class NarrowingKernel {
             }
             for (int i = 0; i < rule.parts; i++) {
                 int range = ranges[rule.of[i]];
+                int mustBegin = greatest(range);
+                int mustEnd = least(range) + rule.a[i];
                 int taken = 0;
                 for (int v = 0; v < NUMBERS; v++) {
-                    if ((range >> v & 1) != 0 && loadTakes(rule, i, v, range)) {
+                    if ((range >> v & 1) != 0 && loadTakes(rule, i, v, mustBegin, mustEnd)) {
                         taken |= 1 << v;
                     }
                 }
@@ -1123,9 +1123,7 @@ public final class NarrowingKernel {
             }
         }
 
-        private boolean loadTakes(Rule rule, int i, int v, int range) {
-            int mustBegin = greatest(range);
-            int mustEnd = least(range) + rule.a[i];
+        private boolean loadTakes(Rule rule, int i, int v, int mustBegin, int mustEnd) {
             int end = Math.min(v + rule.a[i], TIMES);
             for (int time = v; time < end; time++) {
                 boolean isCounted = mustBegin <= time && time < mustEnd;
@@ -1331,10 +1329,12 @@ public final class NarrowingKernel {
         }
 
         private boolean allFit(Rule[] rules, long due) {
-            for (long rest = due; rest != 0; rest &= rest - 1) {
+            long rest = due;
+            for (int looked = 0; looked < rules.length && rest != 0; looked++) {
                 if (!fitter.fits(rules[Long.numberOfTrailingZeros(rest)], number)) {
                     return false;
                 }
+                rest &= rest - 1;
             }
             return true;
         }

@@ -137,6 +137,18 @@ public final class AnswersTest {
         answerIs(k, 0, 0, 0, 0, 1);
         k.unknown(0, 0);
         due.is(STATE, k.next());
+        k = brim();
+        k.solve();
+        due.is(1, k.next());
+        answerIs(k, 0, 0, 0, 0, 5);
+        due.is(1, k.next());
+        answerIs(k, 0, 0, 0, 1, 4);
+        // the last unknown has one number above, with which the rule does not fit
+        k = with(2, 0, 1);
+        ruleOf(k, SUM, NOT, 2, 0, 1, 1);
+        k.best(0, true);
+        answerIs(k, 1, 0);
+        due.is(0, k.next());
         k = with(2, 14, 15);
         k.solve();
         due.is(1, k.next());
@@ -214,13 +226,20 @@ public final class AnswersTest {
         ruleOf(k, LOAD, 4, 0, 2, 2, 2, 2);
         due.is(125 - loadOfThree(), k.count(999));
         k = with(2, 0, 3);
-        k.table(0, 0, 7);
-        int[] cells = {0, 1, 3, 3, 0, 1, 2};
-        for (int i = 0; i < 7; i++) {
+        k.table(0, 0, 9);
+        int[] cells = {1, 3, 3, 2, 0, 1, 3, 2, 2};
+        for (int i = 0; i < 9; i++) {
             k.cell(0, i, cells[i]);
         }
         ruleOf(k, TABLE, 0, 0, 0, 0, 0);
-        due.is(2, k.count(99));
+        due.is(3, k.count(99));
+        k.solve();
+        answerIs(k, 0, 1);
+        k.next();
+        answerIs(k, 1, 3);
+        k.next();
+        answerIs(k, 3, 2);
+        due.is(0, k.next());
         k = with(2, 0, 3);
         k.rule(CLAUSE, 0, 0);
         k.literal(0, 0, 0, 0);
@@ -262,6 +281,10 @@ public final class AnswersTest {
         k.rule(CLAUSE, 0, 0);
         due.is(NONE, k.best(0, false));
         due.is(STATE, k.answer(0));
+        k = with(2, 2, 4);
+        due.is(4, k.best(0, true));
+        answerIs(k, 4, 2);
+        due.is(2, k.best(0, false));
         k = brim();
         due.is(9, k.best(3, true));
         answerIs(k, 0, 0, 0, 9, 4);
@@ -298,6 +321,10 @@ public final class AnswersTest {
         answerIs(k, 0, 1, 3);
         k.rule(CLAUSE, 0, 0);
         due.is(3, k.has(2, 0, 1));
+        k = with(2, 2, 4);
+        due.is(0, k.has(0, 3, 15));
+        due.is(0, k.has(0, 3, 0));
+        due.is(1, k.has(0, 0, 4));
         k = brim();
         due.is(2, k.has(4, 3, 5));
         k.unknown(0, 1);
@@ -370,6 +397,56 @@ public final class AnswersTest {
         due.is(1, k.reason(0));
     }
 
+    /** As many unknowns, rules, parts and steps as there may be. */
+    private static void brimful() {
+        due.about("10 UNKNOWNS, 16 RULES of 6 PARTS, 12 STEPS");
+        int[] counts = {20, 7, 8, 20, 120, 63};
+        for (int kind = 0; kind < 6; kind++) {
+            NarrowingKernel k = new NarrowingKernel();
+            for (int x = 0; x < 6; x++) {
+                // of those that begin with themselves or the next one, the first few are themselves
+                due.is(x, k.unknown(kind == UNLIKE ? x : 0, kind == UNLIKE ? x + 1 : kind == RING ? 5 : 1));
+            }
+            for (int x = 6; x < 10; x++) {
+                due.is(x, k.unknown(9, 9));
+            }
+            k.table(5, 2, 48);
+            for (int i = 0; i < 48; i++) {
+                // the rows are 0 .. 7 in bits
+                k.cell(5, i, i / 6 >> i % 6 & 1);
+            }
+            int a = kind == SUM ? EXACTLY : kind == TABLE ? 5 : 3;
+            for (int r = 0; r < 16; r++) {
+                due.is(r, k.rule(kind, a, 3));
+                for (int x = 0; x < 6; x++) {
+                    due.is(x + 1, kind == CLAUSE ? k.literal(r, x, 3, 1) : k.part(r, x, 1, 1));
+                }
+            }
+            due.is(counts[kind], k.count(20000));
+            due.is(1, k.solve());
+            for (int i = 1; i < counts[kind]; i++) {
+                due.is(1, k.next());
+            }
+            due.is(0, k.next());
+            due.is(9, k.best(9, true));
+            for (int d = 0; d < 12; d++) {
+                due.is(d, k.step(9, 1, 9));
+            }
+            due.is(NONE, k.core());
+            due.is(STATE, k.why(9, 9));
+            k.undo(0);
+            k.rule(CLAUSE, 0, 0);
+            due.is(16, k.total(1));
+        }
+        NarrowingKernel k = with(10, 0, 1);
+        due.is(1024, k.count(20000));
+        due.is(0, k.best(9, false));
+        due.is(1, k.next());
+        answerIs(k, 0, 0, 0, 0, 0, 0, 0, 0, 0, 1);
+        due.is(1, k.next());
+        answerIs(k, 0, 0, 0, 0, 0, 0, 0, 0, 1, 0);
+    }
+
     public static void main(String[] args) {
         solve();
         next();
@@ -379,6 +456,7 @@ public final class AnswersTest {
         best();
         has();
         core();
+        brimful();
         due.end();
     }
 }

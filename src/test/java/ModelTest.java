@@ -1,12 +1,13 @@
 /** Long mixed runs, always the same ones, on the class and on NaiveModel side by side. */
 public final class ModelTest {
-    private static final int RUNS = 3000;
+    private static final int RUNS = 4000, MOST_CALLS = 512;
     private static long seed;
     private static int wrong = 0;
     private static NarrowingKernel kernel;
     private static NaiveModel model;
     private static StringBuilder told;
     private static int widest;
+    private static int calls;
     private static final java.util.TreeMap<String, Integer> met = new java.util.TreeMap<>();
 
     private static int below(int n) {
@@ -46,6 +47,10 @@ public final class ModelTest {
     }
 
     private static void due(String call, int got, int want) {
+        calls++;
+        if (calls > MOST_CALLS) {
+            return; // nothing is promised any more
+        }
         told.append(call).append(" = ").append(got).append("; ");
         String name = call.substring(0, call.indexOf('('));
         met.merge(name + " " + (want < 0 ? String.valueOf(want) : want == 0 ? "0" : "+"), 1, Integer::sum);
@@ -247,7 +252,7 @@ public final class ModelTest {
                 conflict();
                 break;
         }
-        for (int y = -1; y <= model.total(0); y++) {
+        for (int y = below(4) == 0 ? -1 : 0; y < model.total(0) + below(2); y++) {
             due("answer(" + y + ")", kernel.answer(y), model.answer(y));
         }
     }
@@ -317,14 +322,15 @@ public final class ModelTest {
         seed = number * 7919L + 17;
         below(2);
         kernel = new NarrowingKernel();
+        calls = 0;
         model = new NaiveModel();
         told = new StringBuilder("run " + number + ": ");
         widest = from(1, below(5) == 0 ? 15 : 4);
-        int first = from(0, 60), last = from(20, 120), bias = below(4);
+        int first = from(0, 40), last = from(20, 120), bias = below(4);
         for (int i = 0; i < first; i++) {
             tell();
         }
-        for (int i = 0; i < last && wrong == 0; i++) {
+        for (int i = 0; i < last && wrong == 0 && calls < MOST_CALLS; i++) {
             int dice = below(12);
             if (dice == 0) {
                 tell();

@@ -115,6 +115,10 @@ public final class NarrowingTest {
         due.is(1, k.narrow());
         ranges(k, 6, 0x14);
         k.undo(0);
+        k.step(0, 1, 2);
+        due.is(1, k.narrow());
+        ranges(k, 12, 5);
+        k.undo(0);
         // the same unknown order, other rows: three parts, so that two rows are left and one cut short
         k.unknown(0, 9);
         k.part(0, 2, 0, 0);
@@ -142,6 +146,24 @@ public final class NarrowingTest {
         due.is(3, k.takes(0));
         due.is(3, k.narrow());
         ranges(k, 12, 0x63);
+        // a job that must run at 3 and 4: beside it at 5, at 2, there is room for one of its two numbers
+        for (int beside = 2; beside <= 5; beside += 3) {
+            k = new NarrowingKernel();
+            k.unknown(2, 3);
+            k.unknown(beside, beside);
+            k.rule(LOAD, 3, 0);
+            k.part(0, 0, 3, 2);
+            k.part(0, 1, 1, 2);
+            due.is(1, k.takes(0));
+            due.is(1, k.narrow());
+            ranges(k, beside == 2 ? 8 : 4);
+        }
+        k = new NarrowingKernel();
+        k.unknown(0, 3);
+        k.unknown(0, 0);
+        ruleOf(k, LOAD, 3, 0, 2, 2, 2);
+        due.is(2, k.narrow());
+        ranges(k, 12, 1);
         // a job of no length does not run; a need of 0 beside others that are too many goes as well
         k = with(2, 0, 3);
         ruleOf(k, LOAD, 0, 0, 20, 0, 0);
@@ -181,16 +203,16 @@ public final class NarrowingTest {
         ruleOf(k, RING, 0, 0, 0, 0, 0);
         due.is(2, k.narrow());
         ranges(k, 2, 1);
-        // as UNLIKE, with numbers above the last part too: 1 and 8 are of parts 0 and 2
-        k = with(3, 0, 8);
+        // as UNLIKE, with numbers above the last part too: 3 and 8 are of parts 0 and 1
+        k = with(4, 0, 8);
         for (int v = 0; v <= 7; v++) {
-            if (v != 1) {
+            if (v != 3) {
                 due.is(k.range(0, 0) - 1, k.hole(0, v));
-                due.is(k.range(2, 0) - 1, k.hole(2, v));
+                due.is(k.range(1, 0) - 1, k.hole(1, v));
             }
         }
-        ruleOf(k, RING, 0, 0, 0, 0, 0, 0);
-        due.is(1 + 7 + 1, k.takes(0));
+        ruleOf(k, RING, 0, 0, 0, 0, 0, 0, 0);
+        due.is(1 + 1 + 7 + 6, k.takes(0));
     }
 
     private static void clauses() {

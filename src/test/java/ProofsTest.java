@@ -299,6 +299,28 @@ public final class ProofsTest {
         due.is(0, k.refutes());
     }
 
+    /** Three of six are 1: of any four literals that each is 0, and of any four that each is 1, one is so. */
+    private static void brimful() {
+        due.about("10 UNKNOWNS, 40 LINES of 6 LITERALS");
+        NarrowingKernel k = with(10, 0, 1);
+        k.rule(SUM, EXACTLY, 3);
+        for (int x = 4; x < 10; x++) {
+            k.part(0, x, 1, 0);
+        }
+        for (int l = 0; l < 39; l++) {
+            int v = l % 2;
+            due.is(l, lineOf(k, 0, 9, IS_JUST, v, 7, IS_JUST, v, 5, IS_JUST, v, 4, IS_JUST, v, 0, IS_JUST, 2, 1, IS_JUST, 3));
+            due.is(NONE, k.check());
+        }
+        due.is(39, lineOf(k, NONE, 9, IS_JUST, 0, 7, IS_JUST, 0, 5, IS_JUST, 0, 4, IS_JUST, 0));
+        due.is(NONE, k.check());
+        due.is(1, k.forge(39, 3, IS_JUST, 1));
+        due.is(39, k.check());
+        due.is(1, k.forge(38, 3, IS_JUST, 1));
+        due.is(38, k.check());
+        due.is(0, k.refutes());
+    }
+
     private static void total() {
         due.about("promise 33: total");
         NarrowingKernel k = with(3, 0, 5);
@@ -344,6 +366,7 @@ public final class ProofsTest {
         linesFromLines();
         far();
         refutes();
+        brimful();
         total();
         due.end();
     }
