@@ -2,7 +2,7 @@
 public final class BoundsOfProofsTest {
     private static final int UNKNOWN = -1, BAD = -2, FULL = -4, FAR = -5, NONE = -9;
     private static final int SUM = 0, UNLIKE = 1, TABLE = 2, LOAD = 3, RING = 4, CLAUSE = 5;
-    private static final int AT_MOST = 0, EXACTLY = 1, NOT = 2;
+    private static final int EXACTLY = 1, NOT = 2;
     private static final int IS_AT_MOST = 0, IS_AT_LEAST = 1, IS_NOT = 2, IS_JUST = 3;
     private static final Due due = new Due("BoundsOfProofsTest");
 

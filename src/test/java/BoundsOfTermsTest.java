@@ -1349,6 +1349,35 @@ public final class BoundsOfTermsTest {
         }
     }
 
+    private static void rangesComeToBeAsToldByWhatMakesNoDifference() {
+        due.about("4: does something: is not refused, also where all stands as it stood (a reading: NOTES.md)");
+        for (int call = 0; call < 6; call++) {
+            NarrowingKernel k = narrowed();
+            int answer = call == 0 ? k.stand(0, true) : call == 1 ? k.stand(3, false) : call == 2 ? k.table(0, 0, 3)
+                    : call == 3 ? k.tear(5) : call == 4 ? k.cell(0, 1, 0) : k.copy(0, 3, 0, 0, 0);
+            int[] answers = {1, 0, 3, 1, 1, 0};
+            due.is(answers[call], answer);
+            due.ranges(k, 15, 15);
+        }
+    }
+
+    private static void rangesStayByWhatIsRefused() {
+        due.about("4: .. that does something: what is refused, found does not let RANGES be as TOLD");
+        NarrowingKernel k = narrowed();
+        due.is(BAD, k.unknown(5, 4));
+        due.is(STATE, k.hole(0, 9));
+        due.is(BAD, k.rule(6, 0, 0));
+        due.is(CAST, k.part(3, 0, 0, 0));
+        due.is(CAST, k.literal(2, 0, 0, 0));
+        due.is(UNKNOWN, k.stand(4, true));
+        due.is(SIZE, k.table(0, 0, -1));
+        due.is(BAD, k.tear(6));
+        due.is(PLACE, k.cell(0, 3, 0));
+        due.is(NULL, k.copy(0, 0, 5, 0, 0));
+        due.ranges(k, 3, 3);
+        due.is(5, k.total(4));
+    }
+
     public static void main(String[] args) {
         callsOfOneObject();
         objectsAreApart();
@@ -1409,6 +1438,8 @@ public final class BoundsOfTermsTest {
         waysAreOfNarrowedRanges();
         stateWhileThereAreSteps();
         rangesComeToBeAsTold();
+        rangesComeToBeAsToldByWhatMakesNoDifference();
+        rangesStayByWhatIsRefused();
         due.end();
     }
 }
