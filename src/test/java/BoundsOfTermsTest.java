@@ -181,6 +181,18 @@ public final class BoundsOfTermsTest {
             due.is(1, k.count(20000));
             k.stand(r, true);
         }
+        // whichever of 16 it is that an ANSWER does not fit
+        for (int odd = 0; odd < 16; odd++) {
+            k = Worlds.with(2, 0, 1);
+            for (int r = 0; r < 16; r++) {
+                Worlds.ruleOf(k, SUM, NOT, r == odd ? 1 : 5, 0, 1, 1);
+            }
+            due.is(0, k.narrow());
+            due.is(2, k.count(20000));
+            due.is(1, k.solve());
+            due.is(1, k.next());
+            due.answers(k, 1, 1);
+        }
     }
 
     private static void standsAtFirst() {
