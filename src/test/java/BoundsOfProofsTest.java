@@ -252,6 +252,31 @@ public final class BoundsOfProofsTest {
         due.is(NONE, none.check());
     }
 
+    private static void unknownsOfNeither() {
+        due.about("31: UNKNOWNS that are neither of the RULE nor of the LINE have no say, however many ways they have");
+        // x 0 + 2 x 8 + 2 x 9 of 0 .. 1 is 3 just if 0 is 1, which narrowing does not see
+        NarrowingKernel k = new NarrowingKernel();
+        for (int x = 0; x < 10; x++) {
+            k.unknown(0, x == 0 || x > 7 ? 1 : 15);
+        }
+        k.rule(SUM, EXACTLY, 3);
+        k.part(0, 0, 1, 0);
+        k.part(0, 8, 2, 0);
+        k.part(0, 9, 2, 0);
+        due.is(0, k.takes(0));
+        k.line(0);
+        due.is(0, k.check());
+        k.says(0, 0, IS_JUST, 0);
+        due.is(0, k.check());
+        k.forge(0, 0, IS_JUST, 1);
+        due.is(NONE, k.check());
+        // one that the LINE alone is of
+        Worlds.lineOf(k, 0, 7, IS_AT_MOST, 14);
+        due.is(1, k.check());
+        k.says(1, 7, IS_JUST, 15);
+        due.is(NONE, k.check());
+    }
+
     private static void linesFromRulesWithoutParts() {
         due.about("31: of a RULE without PARTS: one way to choose none of them");
         NarrowingKernel k = new NarrowingKernel();
@@ -579,6 +604,7 @@ public final class BoundsOfProofsTest {
         ruleMustStand();
         oneRuleAlone();
         unknownsOfTheLineAlone();
+        unknownsOfNeither();
         linesFromRulesWithoutParts();
         linesOfEveryKind();
         byWhatFitsNotByNarrowing();

@@ -684,6 +684,45 @@ public final class BoundsOfTermsTest {
         }
     }
 
+    /** Ten UNKNOWNS round about: TABLE 0 has equals, TABLE 1 has v and v + 1, and 15 twice. */
+    private static NarrowingKernel roundAbout(boolean backwards) {
+        NarrowingKernel k = Worlds.with(10, 0, 15);
+        for (int t = 0; t < 2; t++) {
+            k.table(t, t, 32);
+            for (int v = 0; v < 16; v++) {
+                k.cell(t, 2 * v, v);
+                k.cell(t, 2 * v + 1, Math.min(v + t, 15));
+            }
+        }
+        for (int r = 0; r < 10; r++) {
+            int x = backwards ? 9 - r : r;
+            k.rule(TABLE, x == 9 ? 1 : 0, 0);
+            k.part(r, x, 0, 0);
+            k.part(r, (x + 1) % 10, 0, 0);
+        }
+        return k;
+    }
+
+    private static void againAndAgainForLong() {
+        due.about("2: again and again, till none takes any: NUMBER after NUMBER, RULE after RULE");
+        for (int backwards = 0; backwards < 2; backwards++) {
+            // UNKNOWN 0 loses 0, 1 loses 0, .. 9 loses 0, 0 loses 1, 1 loses 1, .., till each has but 15
+            NarrowingKernel k = roundAbout(backwards == 1);
+            due.is(1, k.takes(backwards == 1 ? 0 : 9));
+            due.is(1, k.count(20000));
+            due.is(150, k.narrow());
+            for (int x = 0; x < 10; x++) {
+                due.is(0x8000, k.range(x, 3));
+            }
+            due.is(0, k.narrow());
+            // DEAD only at the end of it
+            k.hole(9, 15);
+            due.is(STATE, k.narrow());
+            due.is(0, k.count(20000));
+            due.is(0xFFFF, k.range(0, 3));
+        }
+    }
+
     /** The bits of least .. greatest whose multiples, with the others from low to high, are not too many, or few. */
     private static int sumKeeps(int range, int m, int how, int bound, int low, int high) {
         int kept = 0;
@@ -1422,6 +1461,7 @@ public final class BoundsOfTermsTest {
         answersOfTwoRules();
         onlyWhatStandsTakes();
         againAndAgain();
+        againAndAgainForLong();
         sumsNarrowed();
         sumsOfNegativesNarrowed();
         sumNotNarrowed();
